@@ -1,0 +1,86 @@
+import java.lang.management.ManagementFactory;
+
+/**
+ * The room of a run: some 600,000 objects and 7.3 million fields and elements for at most 512 calls.
+ * Everything is made with the object, so calls that throw nothing must make next to nothing.
+ */
+public final class RoomTest {
+    private static final Checks CHECKS = new Checks("RoomTest");
+    private static final com.sun.management.ThreadMXBean BEAN =
+        (com.sun.management.ThreadMXBean) ManagementFactory.getThreadMXBean();
+    private static final int CALLS = 512;
+
+    private RoomTest() {
+    }
+
+    public static void main(String[] args) {
+        // The first object of all also loads the classes, which is no room of the run.
+        fill(new BillArchive());
+        long before = allocated();
+        BillArchive x = new BillArchive();
+        CHECKS.isTrue("a new object is small", allocated() - before < 64 * 1024);
+        fill(x);
+        for (int kind = 0; kind < 16; kind++) {
+            measure(x, kind);
+        }
+        CHECKS.end();
+    }
+
+    private static long allocated() {
+        return BEAN.getThreadAllocatedBytes(Thread.currentThread().getId());
+    }
+
+    private static void fill(BillArchive x) {
+        for (int a = 0; a < 10; a++) {
+            x.addActor(a);
+        }
+        for (int p = 0; p < 6; p++) {
+            x.addPart();
+            x.cast(p, p, 0);
+            for (int a = 6; a < 9; a++) {
+                x.understudy(p, a);
+            }
+        }
+        for (int n = 0; n < 20; n++) {
+            x.slip(n, n % 6, 9 - n % 10, n);
+        }
+        Views.type(x, "B" + "p".repeat(119));
+        x.save(0);
+    }
+
+    private static void measure(BillArchive x, int kind) {
+        call(x, kind, 0);
+        long before = allocated();
+        for (int i = 0; i < CALLS; i++) {
+            call(x, kind, i);
+        }
+        long bytes = allocated() - before;
+        CHECKS.isTrue("calls of kind " + kind + " make " + bytes + " bytes", bytes < 16 * 1024);
+    }
+
+    private static void call(BillArchive x, int kind, int i) {
+        switch (kind) {
+            case 0 -> x.bestUnderstudy(i % 6);
+            case 1 -> x.needed();
+            case 2 -> x.simulate(i, 60);
+            case 3 -> x.runScript(3, 103059001990020L);
+            case 4 -> x.about(i % 7);
+            case 5 -> x.ifIll(i % 10, i % 20, i % 2);
+            case 6 -> x.together(i % 10, i % 7);
+            case 7 -> x.longest(i % 6, i % 10);
+            case 8 -> x.find(i % 6, i % 10, i);
+            case 9 -> x.actor(i % 10, i % 6);
+            case 10 -> x.set(0, i % 100);
+            case 11 -> x.save(1);
+            case 12 -> x.restore(0);
+            case 13 -> x.errorPosition();
+            case 14 -> x.ill(i % 10, i % 20, i % 3 > 0);
+            default -> loadAndSave(x);
+        }
+    }
+
+    private static void loadAndSave(BillArchive x) {
+        x.load();
+        x.save(0);
+    }
+}
