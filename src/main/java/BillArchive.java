@@ -476,7 +476,7 @@ public final class BillArchive {
             throw new IllegalArgumentException("what is neither 0 nor 1");
         }
         trial.copyOf(now);
-        trial.changeIllness(a, n, !now.isIll(a, n));
+        trial.changeIllness(a, n, !holds(now.illOn(n), a));
         evening.workOut(now, n);
         otherwise.workOut(trial, n);
         return what == 0 ? partsChanged() : otherwise.takings() - evening.takings();
@@ -724,7 +724,7 @@ public final class BillArchive {
         private static final int OPTION_AT = 3;
         private static final int FAME_AT = OPTION_AT + SETTINGS;
         private static final int ILL_AT = FAME_AT + MOST_ACTORS;
-        private static final int UNDERSTUDIES_AT = ILL_AT + MOST_ACTORS;
+        private static final int UNDERSTUDIES_AT = ILL_AT + NIGHTS;
         private static final int UNDERSTUDY_AT = UNDERSTUDIES_AT + MOST_PARTS;
         private static final int PRINCIPAL_AT = UNDERSTUDY_AT + MOST_PARTS * MOST_UNDERSTUDIES;
         private static final int SLIP_AT = PRINCIPAL_AT + MOST_PARTS * NIGHTS;
@@ -811,7 +811,6 @@ public final class BillArchive {
             }
             int a = row[ACTORS_AT];
             row[FAME_AT + a] = fame;
-            row[ILL_AT + a] = 0;
             row[ACTORS_AT] = a + 1;
             return true;
         }
@@ -825,29 +824,26 @@ public final class BillArchive {
                 return false;
             }
             if (is) {
-                row[ILL_AT + a] |= 1 << n;
+                row[ILL_AT + n] |= 1 << a;
             } else {
-                row[ILL_AT + a] &= ~(1 << n);
+                row[ILL_AT + n] &= ~(1 << a);
             }
             return true;
         }
 
-        boolean isIll(int a, int n) {
-            return hasActor(a) && holds(row[ILL_AT + a], n);
+        /** The actors who are ill on a night, as a set; kept so, as each evening worked out asks for it. */
+        int illOn(int n) {
+            return n >= 0 && n < NIGHTS ? row[ILL_AT + n] : 0;
         }
 
         int illNights(int a) {
-            return hasActor(a) ? Integer.bitCount(row[ILL_AT + a]) : 0;
-        }
-
-        int illOn(int n) {
-            int actors = 0;
-            for (int a = 0; a < row[ACTORS_AT]; a++) {
-                if (isIll(a, n)) {
-                    actors |= 1 << a;
+            int nights = 0;
+            for (int n = 0; n < NIGHTS; n++) {
+                if (holds(row[ILL_AT + n], a)) {
+                    nights++;
                 }
             }
-            return actors;
+            return nights;
         }
 
         boolean canOpenPart() {
@@ -1029,7 +1025,7 @@ public final class BillArchive {
                 return;
             }
             parts = Math.min(state.parts(), MOST_PARTS);
-            free = (1 << state.actors()) - 1 & ~state.illOn(n);
+            free = ((1 << state.actors()) - 1) & ~state.illOn(n);
             principals = state.principalsOn(n);
             slips = state.slipsOn(n);
             dark = parts == 0;

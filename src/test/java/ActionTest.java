@@ -115,6 +115,14 @@ public final class ActionTest {
         CHECKS.same("left", 4, x.ranked(0, 0));
         CHECKS.same("as the last one", 2, x.understudy(0, 3));
         CHECKS.same("rank", 1, x.release(0, 3));
+        for (int a = 0; a < 4; a++) {
+            x.understudy(1, a);
+        }
+        CHECKS.same("of part 1", 1, x.release(1, 1));
+        CHECKS.same("those behind come up", 2, x.ranked(1, 1));
+        CHECKS.same("those behind come up", 3, x.ranked(1, 2));
+        CHECKS.same("three", -1, x.ranked(1, 3));
+        CHECKS.same("part 0 stays", 4, x.ranked(0, 0));
         CHECKS.refuses("part 2", x, INDEX, () -> x.release(2, 4));
         CHECKS.refuses("part -1", x, INDEX, () -> x.release(-1, 4));
         CHECKS.refuses("actor 6", x, INDEX, () -> x.release(0, 6));

@@ -159,6 +159,10 @@ public final class FindTest {
         x.ill(3, 4, true);
         x.ill(3, 5, true);
         CHECKS.same("two nights", 1, x.needed());
+        BillArchive first = Views.loaded("Ba1a1pc0000u01i100");
+        CHECKS.same("night 0 counts", 0, first.needed());
+        BillArchive second = Views.loaded("Ba1a1pc0100u00i000");
+        CHECKS.same("night 0 counts", 1, second.needed());
         CHECKS.same("no parts", 0, Views.loaded("Ba1a2").needed());
         CHECKS.same("no actors", -1, Views.loaded("Bp").needed());
     }

@@ -156,6 +156,10 @@ public final class TextTest {
         CHECKS.same("slip", 7, x.found(0, 3));
         CHECKS.same("slip", 19, x.found(0, 0));
         CHECKS.same("load keeps the text", 34, x.clearText());
+        Views.type(x, "Ba5a7ppc0112u10");
+        CHECKS.same("load", 0, x.load());
+        CHECKS.same("part before actor", 1, x.bill(12, 0, 0));
+        CHECKS.same("part before actor", 0, x.ranked(1, 0));
         Views.type(x, "B");
         CHECKS.same("load of nothing", 0, x.load());
         CHECKS.same("nothing", 0, x.about(0) + x.about(1) + x.about(2));

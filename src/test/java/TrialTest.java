@@ -62,6 +62,8 @@ public final class TrialTest {
         one(10219, -1);
         one(10220, 0);
         one(10400, 0);
+        two(1031271203L, -1);
+        two(1031271103L, 1);
         one(12000, 0);
         one(20300, -1);
         one(20200, 0);

@@ -95,6 +95,18 @@ public final class ViewTest {
         y.slip(2, 0, 2, 3);
         y.ill(1, 2, true);
         CHECKS.same("one taken is passed over", 3, y.played(2, 1));
+        BillArchive last = Views.loaded("Ba1a2a3ppc0000c1100u12u10");
+        last.ill(1, 5, true);
+        last.ill(2, 5, true);
+        CHECKS.same("the principal of a lower part is left out", 0, last.bill(5, 1, 2));
+        last.ill(2, 5, false);
+        CHECKS.same("no slip plays", 0, last.about(6));
+        last.slip(7, 0, 0, 3);
+        CHECKS.same("one slip plays", 1, last.about(6));
+        CHECKS.same("by it", 1, last.found(0, 4));
+        last.slip(5, 1, 1, 3);
+        last.lose(0);
+        CHECKS.same("an understudy plays by no slip", 0, last.found(0, 4) + last.about(6));
         BillArchive z = Views.loaded("Ba1a2ppc0000c1000u11");
         CHECKS.same("an understudy for one taken", 1, z.played(0, 1));
         z.understudy(0, 1);
@@ -224,10 +236,17 @@ public final class ViewTest {
         x.slip(8, 2, 2, 4);
         x.slip(8, 1, 3, 4);
         CHECKS.same("a part without a principal counts", 2, x.night(8, 4));
+        CHECKS.same("part 0 is played by another", 1, partsOfOthersOnNightNine());
         CHECKS.refuses("night 20", x, INDEX, () -> x.night(20, 0));
         CHECKS.refuses("night -1", x, INDEX, () -> x.night(-1, 5));
         CHECKS.refuses("what 5", x, ARGUMENT, () -> x.night(19, 5));
         CHECKS.refuses("what -1", x, ARGUMENT, () -> x.night(0, -1));
+    }
+
+    private static int partsOfOthersOnNightNine() {
+        BillArchive x = house();
+        x.slip(9, 0, 2, 4);
+        return x.night(9, 4);
     }
 
     private static void actor() {
@@ -252,6 +271,10 @@ public final class ViewTest {
         CHECKS.same("no first", -1, x.actor(3, 2));
         CHECKS.same("no last", -1, x.actor(3, 3));
         CHECKS.same("no parts", 0, x.actor(3, 4));
+        x.slip(0, 1, 3, 4);
+        CHECKS.same("night 0 alone: first", 0, x.actor(3, 2));
+        CHECKS.same("night 0 alone: last", 0, x.actor(3, 3));
+        CHECKS.same("night 0 alone: parts", 2, x.actor(3, 4));
         CHECKS.refuses("actor 4", x, INDEX, () -> x.actor(4, 0));
         CHECKS.refuses("actor -1", x, INDEX, () -> x.actor(-1, 6));
         CHECKS.refuses("what 6", x, ARGUMENT, () -> x.actor(0, 6));
