@@ -73,6 +73,8 @@ public final class TrialTest {
         one(22000, 0);
         one(30200, -1);
         one(30300, 0);
+        one(32000, 0);
+        one(30900, 0);
         one(30210, 0);
         one(30201, 0);
         two(2030020300L, 1);

@@ -107,6 +107,11 @@ public final class ViewTest {
         last.slip(5, 1, 1, 3);
         last.lose(0);
         CHECKS.same("an understudy plays by no slip", 0, last.found(0, 4) + last.about(6));
+        BillArchive away = Views.loaded("Ba1a2a3ppc0000c1100u10i105s050212");
+        CHECKS.same("part 0 is taken by a slip", 2, away.bill(5, 0, 1));
+        CHECKS.same("its principal is left out for part 1 all the same", 0, away.bill(5, 1, 2));
+        away.cast(0, BillArchive.NONE, 0);
+        CHECKS.same("but not one who is nobody's principal", 0, away.played(5, 1));
         BillArchive z = Views.loaded("Ba1a2ppc0000c1000u11");
         CHECKS.same("an understudy for one taken", 1, z.played(0, 1));
         z.understudy(0, 1);
