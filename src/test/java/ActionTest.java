@@ -24,12 +24,12 @@ public final class ActionTest {
         CHECKS.end();
     }
 
-    private static BillArchive house() {
+    private static Recorded house() {
         return Views.loaded("Ba1a2a3a4a5a6ppc0000c1100");
     }
 
     private static void addActor() {
-        BillArchive x = new BillArchive();
+        Recorded x = new Recorded();
         CHECKS.refuses("fame -1", x, ARGUMENT, () -> x.addActor(-1));
         CHECKS.refuses("fame 10", x, ARGUMENT, () -> x.addActor(10));
         for (int a = 0; a < 10; a++) {
@@ -42,7 +42,7 @@ public final class ActionTest {
     }
 
     private static void addPart() {
-        BillArchive x = new BillArchive();
+        Recorded x = new Recorded();
         for (int p = 0; p < 6; p++) {
             CHECKS.same("number", p, x.addPart());
             CHECKS.same("no understudy", -1, x.ranked(p, 0));
@@ -51,7 +51,7 @@ public final class ActionTest {
             }
         }
         CHECKS.refuses("a seventh", x, STATE, x::addPart);
-        BillArchive y = house();
+        Recorded y = house();
         y.addPart();
         y.cast(2, 4, 0);
         y.understudy(2, 3);
@@ -64,7 +64,7 @@ public final class ActionTest {
     }
 
     private static void cast() {
-        BillArchive x = house();
+        Recorded x = house();
         CHECKS.same("previous", 0, x.cast(0, 3, 10));
         CHECKS.same("the night before", 0, x.bill(9, 0, 0));
         CHECKS.same("this night", 3, x.bill(10, 0, 0));
@@ -84,7 +84,7 @@ public final class ActionTest {
     }
 
     private static void understudy() {
-        BillArchive x = house();
+        Recorded x = house();
         CHECKS.same("one", 1, x.understudy(1, 5));
         CHECKS.refuses("the same again", x, STATE, () -> x.understudy(1, 5));
         CHECKS.same("the principal", 2, x.understudy(1, 1));
@@ -99,7 +99,7 @@ public final class ActionTest {
     }
 
     private static void release() {
-        BillArchive x = house();
+        Recorded x = house();
         CHECKS.refuses("none", x, STATE, () -> x.release(0, 0));
         for (int a = 2; a < 6; a++) {
             x.understudy(0, a);
@@ -130,7 +130,7 @@ public final class ActionTest {
     }
 
     private static void ill() {
-        BillArchive x = house();
+        Recorded x = house();
         CHECKS.same("ill", 1, x.ill(5, 0, true));
         CHECKS.same("ill again", 1, x.ill(5, 0, true));
         CHECKS.same("the last night", 2, x.ill(5, 19, true));
@@ -150,7 +150,7 @@ public final class ActionTest {
     }
 
     private static void slip() {
-        BillArchive x = house();
+        Recorded x = house();
         CHECKS.refuses("night 20", x, INDEX, () -> x.slip(20, 0, 0, 24));
         CHECKS.refuses("night -1", x, INDEX, () -> x.slip(-1, 0, 0, 0));
         CHECKS.refuses("part 2", x, INDEX, () -> x.slip(0, 2, 0, -1));
@@ -169,7 +169,7 @@ public final class ActionTest {
     }
 
     private static void lose() {
-        BillArchive x = house();
+        Recorded x = house();
         CHECKS.refuses("no slip", x, INDEX, () -> x.lose(0));
         for (int k = 0; k < 20; k++) {
             x.slip(k, 0, 2, k);
@@ -189,7 +189,7 @@ public final class ActionTest {
     }
 
     private static void set() {
-        BillArchive x = house();
+        Recorded x = house();
         CHECKS.same("previous", 20, x.set(0, 99));
         CHECKS.same("previous", 99, x.set(0, 0));
         CHECKS.same("previous", 3, x.set(1, 9));
@@ -204,7 +204,7 @@ public final class ActionTest {
         CHECKS.refuses("1: -1", x, ARGUMENT, () -> x.set(1, -1));
     }
 
-    private static void takenBack(String label, BillArchive x, Checks.Call action) {
+    private static void takenBack(String label, Recorded x, Checks.Call action) {
         String before = Views.of(x);
         action.answer();
         CHECKS.same(label + ": still remembered", 0, x.undo());
@@ -212,7 +212,7 @@ public final class ActionTest {
     }
 
     private static void undoTakesBackEachAction() {
-        BillArchive x = Views.loaded("Ba1a2a3a4ppc0000c1100u02u13i205s050212s051313");
+        Recorded x = Views.loaded("Ba1a2a3a4ppc0000c1100u02u13i205s050212s051313");
         takenBack("addActor", x, () -> x.addActor(7));
         takenBack("addPart", x, x::addPart);
         takenBack("cast", x, () -> x.cast(0, 3, 4));
@@ -232,7 +232,7 @@ public final class ActionTest {
     }
 
     private static void undoRemembersFourteen() {
-        BillArchive x = house();
+        Recorded x = house();
         for (int i = 1; i <= 40; i++) {
             x.set(0, i);
         }
@@ -248,7 +248,7 @@ public final class ActionTest {
         x.set(1, 7);
         CHECKS.same("undo is no action", 13, x.undo());
         CHECKS.same("the state before", 3, x.setting(1));
-        BillArchive y = house();
+        Recorded y = house();
         for (int i = 0; i < 100; i++) {
             y.set(0, i % 100);
             y.set(0, (i + 50) % 100);
@@ -258,7 +258,7 @@ public final class ActionTest {
     }
 
     private static void whatThrowsIsNoAction() {
-        BillArchive x = house();
+        Recorded x = house();
         x.set(0, 77);
         Checks.outcome(() -> x.addActor(10));
         Checks.outcome(() -> x.cast(0, 9, 0));

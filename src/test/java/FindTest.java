@@ -17,12 +17,12 @@ public final class FindTest {
         CHECKS.end();
     }
 
-    private static BillArchive house() {
+    private static Recorded house() {
         return Views.loaded("Ba1a2a3a4ppc0000c1100");
     }
 
     private static void find() {
-        BillArchive x = house();
+        Recorded x = house();
         x.slip(3, 0, 2, 1);
         x.slip(17, 0, 2, 1);
         x.slip(9, 0, 2, 1);
@@ -46,7 +46,7 @@ public final class FindTest {
     }
 
     private static void together() {
-        BillArchive x = house();
+        Recorded x = house();
         x.ill(0, 4, true);
         x.slip(7, 0, 2, 0);
         x.slip(8, 1, 2, 0);
@@ -62,7 +62,7 @@ public final class FindTest {
     }
 
     private static void longest() {
-        BillArchive x = house();
+        Recorded x = house();
         CHECKS.same("all nights", 20, x.longest(0, 0));
         CHECKS.same("never", 0, x.longest(0, 1));
         x.slip(6, 0, 2, 0);
@@ -81,7 +81,7 @@ public final class FindTest {
     }
 
     private static void ifIll() {
-        BillArchive x = house();
+        Recorded x = house();
         x.understudy(0, 2);
         CHECKS.same("another would be taken", 1, x.ifIll(0, 3, 0));
         CHECKS.same("the takings", 3 * (3 - 1), x.ifIll(0, 3, 1));
@@ -122,7 +122,7 @@ public final class FindTest {
     }
 
     private static void bestUnderstudy() {
-        BillArchive x = house();
+        Recorded x = house();
         CHECKS.same("all the same: the lowest", 0, x.bestUnderstudy(0));
         x.ill(0, 3, true);
         CHECKS.same("fewest dark, then takings", 3, x.bestUnderstudy(0));
@@ -137,18 +137,18 @@ public final class FindTest {
         CHECKS.same("four already", -1, x.bestUnderstudy(0));
         CHECKS.refuses("part 2", x, INDEX, () -> x.bestUnderstudy(2));
         CHECKS.refuses("part -1", x, INDEX, () -> x.bestUnderstudy(-1));
-        BillArchive few = Views.loaded("Bpa0u00");
+        Recorded few = Views.loaded("Bpa0u00");
         CHECKS.same("no such actor", -1, few.bestUnderstudy(0));
-        BillArchive nobody = Views.loaded("Bp");
+        Recorded nobody = Views.loaded("Bp");
         CHECKS.same("no actors", -1, nobody.bestUnderstudy(0));
-        BillArchive dark = Views.loaded("Ba1a9a0pc0000i000i001i101");
+        Recorded dark = Views.loaded("Ba1a9a0pc0000i000i001i101");
         CHECKS.same("fewer dark nights before greater takings", 2, dark.bestUnderstudy(0));
-        BillArchive equal = Views.loaded("Ba1a5a5pc0000i000");
+        Recorded equal = Views.loaded("Ba1a5a5pc0000i000");
         CHECKS.same("of equals the lowest", 1, equal.bestUnderstudy(0));
     }
 
     private static void needed() {
-        BillArchive x = house();
+        Recorded x = house();
         CHECKS.same("both alike: the lowest", 0, x.needed());
         x.understudy(0, 2);
         CHECKS.same("the one nobody stands in for", 1, x.needed());
@@ -159,9 +159,9 @@ public final class FindTest {
         x.ill(3, 4, true);
         x.ill(3, 5, true);
         CHECKS.same("two nights", 1, x.needed());
-        BillArchive first = Views.loaded("Ba1a1pc0000u01i100");
+        Recorded first = Views.loaded("Ba1a1pc0000u01i100");
         CHECKS.same("night 0 counts", 0, first.needed());
-        BillArchive second = Views.loaded("Ba1a1pc0100u00i000");
+        Recorded second = Views.loaded("Ba1a1pc0100u00i000");
         CHECKS.same("night 0 counts", 1, second.needed());
         CHECKS.same("no parts", 0, Views.loaded("Ba1a2").needed());
         CHECKS.same("no actors", -1, Views.loaded("Bp").needed());

@@ -1,7 +1,10 @@
 import java.io.IOException;
 import java.nio.file.Files;
 import java.nio.file.Path;
+import java.util.Map;
 import java.util.Set;
+import java.util.TreeMap;
+import java.util.TreeSet;
 import java.util.regex.Matcher;
 import java.util.regex.Pattern;
 
@@ -24,6 +27,7 @@ public final class LanguageTest {
         calledClasses(bare);
         thrown(code);
         lengths(source);
+        depth(bare);
         CHECKS.end();
     }
 
@@ -60,6 +64,46 @@ public final class LanguageTest {
             right += EXCEPTIONS.contains(one.group(1)) ? 1 : 0;
         }
         CHECKS.same("throws of the allowed form", all, right);
+    }
+
+    /**
+     * Rules 8 and 11: no recursion, and calls at most eight deep. Methods of one name are taken for one,
+     * so that this can only tell too much.
+     */
+    private static void depth(String bare) {
+        Map<String, Set<String>> calls = new TreeMap<>();
+        Pattern head = Pattern.compile("^ {4,8}(?:(?:public|private|static|final) )*(?:[\\w\\[\\]]+ )?(\\w+)\\(.*");
+        Pattern call = Pattern.compile("(\\w+)\\(");
+        Set<String> body = new TreeSet<>();
+        for (String line : bare.split("\n")) {
+            Matcher begins = head.matcher(line);
+            boolean isHead = line.matches("( {4}| {8})(public |private |static |int |boolean |long |void |String |State).*")
+                && !line.contains("=") && !line.contains(" class ") && !line.contains(";") && !line.contains("return");
+            if (isHead && begins.matches()) {
+                body = calls.computeIfAbsent(begins.group(1), name -> new TreeSet<>());
+            } else {
+                Matcher called = call.matcher(line);
+                while (called.find()) {
+                    body.add(called.group(1));
+                }
+            }
+        }
+        CHECKS.isTrue("the methods are found: " + calls.size(), calls.size() > 100);
+        for (String name : calls.keySet()) {
+            int deep = depth(name, calls, 0);
+            CHECKS.isTrue("calls from " + name + " go " + deep + " deep", deep <= 8);
+        }
+    }
+
+    private static int depth(String name, Map<String, Set<String>> calls, int above) {
+        int deepest = 0;
+        for (String called : calls.getOrDefault(name, Set.of())) {
+            // Deeper than all methods together can only be a recursion.
+            if (calls.containsKey(called) && above < 12) {
+                deepest = Math.max(deepest, depth(called, calls, above + 1));
+            }
+        }
+        return deepest + 1;
     }
 
     /** A method ends where a closing bracket stands as far in as its head. */

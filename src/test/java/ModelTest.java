@@ -9,6 +9,7 @@ public final class ModelTest {
     private final BillArchive real = new BillArchive();
     private final PlainArchive plain = new PlainArchive();
     private final Random random;
+    private int made;
     private String call;
     private Checks.Call realCall;
     private Checks.Call plainCall;
@@ -28,7 +29,7 @@ public final class ModelTest {
 
     private void play(int run, int[] answers) {
         int kind = run % 4;
-        for (int i = 0; i < CALLS; i++) {
+        for (int i = 0; made < CALLS; i++) {
             if (i < 25 && kind != 3) {
                 build(i, kind);
             } else {
@@ -36,7 +37,8 @@ public final class ModelTest {
             }
             String want = Checks.outcome(plainCall);
             String got = Checks.outcome(realCall);
-            CHECKS.same("run " + run + " call " + i + " " + call, want, got);
+            made++;
+            CHECKS.same("run " + run + " call " + made + " " + call, want, got);
             answers[want.endsWith("Exception") ? 1 : 0]++;
         }
     }
@@ -222,20 +224,23 @@ public final class ModelTest {
             case 0 -> is("clearText", real::clearText, plain::clearText);
             case 1 -> is("errorPosition", real::errorPosition, plain::errorPosition);
             case 2 -> is("load", real::load, plain::load);
-            default -> typing();
+            default -> typing(text());
         }
     }
 
-    /** Types a whole text, which is right up to some place, in both; the last sign is the call. */
-    private void typing() {
-        real.clearText();
-        plain.clearText();
-        String text = text();
+    /** Types a whole text, which is right up to some place, in both, if there are calls left for it. */
+    private void typing(String text) {
+        is("clearText", real::clearText, plain::clearText);
+        if (made + text.length() + 2 > CALLS) {
+            return;
+        }
+        CHECKS.same(call, Checks.outcome(plainCall), Checks.outcome(realCall));
         for (int i = 0; i < text.length(); i++) {
             char c = text.charAt(i);
-            Checks.outcome(() -> real.append(c));
-            Checks.outcome(() -> plain.append(c));
+            CHECKS.same("append " + (int) c, Checks.outcome(() -> plain.append(c)),
+                Checks.outcome(() -> real.append(c)));
         }
+        made += 1 + text.length();
         if (random.nextInt(4) == 0) {
             is("load " + text, real::load, plain::load);
         } else {

@@ -8,7 +8,7 @@ public final class RoomTest {
     private static final Checks CHECKS = new Checks("RoomTest");
     private static final com.sun.management.ThreadMXBean BEAN =
         (com.sun.management.ThreadMXBean) ManagementFactory.getThreadMXBean();
-    private static final int CALLS = 512;
+    private static final int CALLS = 150;
 
     private RoomTest() {
     }
@@ -17,11 +17,12 @@ public final class RoomTest {
         // The first object of all also loads the classes, which is no room of the run.
         fill(new BillArchive());
         long before = allocated();
-        BillArchive x = new BillArchive();
+        new BillArchive();
         CHECKS.isTrue("a new object is small", allocated() - before < 64 * 1024);
-        fill(x);
         for (int kind = 0; kind < 16; kind++) {
-            measure(x, kind);
+            BillArchive filled = new BillArchive();
+            fill(filled);
+            measure(filled, kind);
         }
         CHECKS.end();
     }
@@ -44,7 +45,10 @@ public final class RoomTest {
         for (int n = 0; n < 20; n++) {
             x.slip(n, n % 6, 9 - n % 10, n);
         }
-        Views.type(x, "B" + "p".repeat(119));
+        x.append('B');
+        for (int i = 1; i < 120; i++) {
+            x.append('p');
+        }
         x.save(0);
     }
 

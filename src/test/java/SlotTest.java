@@ -14,12 +14,12 @@ public final class SlotTest {
         CHECKS.end();
     }
 
-    private static BillArchive house() {
+    private static Recorded house() {
         return Views.loaded("Ba1a2a3a4ppc0000c1100u02s190312");
     }
 
     private static void ranges() {
-        BillArchive x = house();
+        Recorded x = house();
         CHECKS.refuses("save -1", x, INDEX, () -> x.save(-1));
         CHECKS.refuses("save 2", x, INDEX, () -> x.save(2));
         CHECKS.refuses("restore -1", x, INDEX, () -> x.restore(-1));
@@ -31,8 +31,8 @@ public final class SlotTest {
     }
 
     private static void saveAndRestore() {
-        BillArchive x = house();
-        String first = Views.of(x);
+        Recorded x = house();
+        String first = Views.state(x);
         CHECKS.same("save 0", 1, x.save(0));
         x.slip(3, 1, 3, 3);
         x.addPart();
@@ -41,17 +41,17 @@ public final class SlotTest {
         x.release(0, 2);
         x.ill(0, 0, true);
         x.cast(1, 4, 7);
-        String second = Views.of(x);
+        String second = Views.state(x);
         CHECKS.same("save 1", 2, x.save(1));
         x.lose(0);
         x.lose(0);
         CHECKS.same("restore 0", 1, x.restore(0));
-        CHECKS.same("the first state", first, Views.of(x));
+        CHECKS.same("the first state", first, Views.state(x));
         CHECKS.same("restore 1", 2, x.restore(1));
-        CHECKS.same("the second state", second, Views.of(x));
+        CHECKS.same("the second state", second, Views.state(x));
         x.lose(0);
         CHECKS.same("the slot keeps it", 2, x.restore(1));
-        CHECKS.same("the second state again", second, Views.of(x));
+        CHECKS.same("the second state again", second, Views.state(x));
         x.lose(1);
         CHECKS.same("save over it", 1, x.save(1));
         CHECKS.same("restore 0", 1, x.restore(0));
@@ -63,7 +63,7 @@ public final class SlotTest {
     }
 
     private static void theHistory() {
-        BillArchive x = house();
+        Recorded x = house();
         x.set(0, 1);
         x.save(0);
         x.set(0, 2);

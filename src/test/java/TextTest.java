@@ -17,7 +17,7 @@ public final class TextTest {
     }
 
     private static void newObject() {
-        BillArchive x = new BillArchive();
+        Recorded x = new Recorded();
         CHECKS.same("NONE", -1, BillArchive.NONE);
         int[] want = {0, 0, 0, 20, 0, 0, 0};
         for (int what = 0; what < want.length; what++) {
@@ -37,7 +37,7 @@ public final class TextTest {
     }
 
     private static void append() {
-        BillArchive x = new BillArchive();
+        Recorded x = new Recorded();
         CHECKS.refuses("append -1", x, IllegalArgumentException.class, () -> x.append(-1));
         CHECKS.refuses("append 256", x, IllegalArgumentException.class, () -> x.append(256));
         CHECKS.refuses("append min", x, IllegalArgumentException.class, () -> x.append(Integer.MIN_VALUE));
@@ -54,7 +54,7 @@ public final class TextTest {
     }
 
     private static void clearText() {
-        BillArchive x = Views.loaded("Ba5pc0000");
+        Recorded x = Views.loaded("Ba5pc0000");
         String before = Views.of(x);
         CHECKS.same("clear an empty text", 0, x.clearText());
         Views.type(x, "hello");
@@ -64,7 +64,7 @@ public final class TextTest {
     }
 
     private static void position(String text, int want) {
-        BillArchive x = new BillArchive();
+        Recorded x = new Recorded();
         Views.type(x, text);
         CHECKS.same("error position of " + text, want, x.errorPosition());
         CHECKS.same("again", want, x.errorPosition());
@@ -129,7 +129,7 @@ public final class TextTest {
         for (int at = 0; at < run.length(); at++) {
             String signs = allowed[at].replace("0-9", "0123456789").replace("0-5", "012345");
             for (int c = 0; c <= 255; c++) {
-                BillArchive x = new BillArchive();
+                Recorded x = new Recorded();
                 Views.type(x, run.substring(0, at));
                 x.append(c);
                 boolean isAllowed = signs.indexOf(c) >= 0;
@@ -139,7 +139,7 @@ public final class TextTest {
     }
 
     private static void load() {
-        BillArchive x = new BillArchive();
+        Recorded x = new Recorded();
         CHECKS.refuses("load of no text", x, IllegalStateException.class, x::load);
         Views.type(x, "Ba5ppa");
         CHECKS.refuses("load of an unended text", x, IllegalStateException.class, x::load);
@@ -175,7 +175,7 @@ public final class TextTest {
     }
 
     private static void loadForgets() {
-        BillArchive x = Views.loaded("Ba5pc0000");
+        Recorded x = Views.loaded("Ba5pc0000");
         x.set(0, 99);
         x.set(1, 9);
         x.save(0);

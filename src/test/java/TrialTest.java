@@ -19,12 +19,12 @@ public final class TrialTest {
     }
 
     /** Two parts with principals 0 and 1, understudy 2 of part 0, a slip for actor 3 on night 19. */
-    private static BillArchive house() {
+    private static Recorded house() {
         return Views.loaded("Ba1a2a3a4ppc0000c1100u02s190312");
     }
 
     private static void one(long script, int want) {
-        BillArchive x = house();
+        Recorded x = house();
         String before = Views.of(x);
         CHECKS.same("script " + script, want, x.runScript(1, script));
         CHECKS.same("script " + script + " changes nothing", before, Views.of(x));
@@ -39,7 +39,7 @@ public final class TrialTest {
     }
 
     private static void scriptRanges() {
-        BillArchive x = house();
+        Recorded x = house();
         CHECKS.refuses("0 commands", x, ARGUMENT, () -> x.runScript(0, 0));
         CHECKS.refuses("4 commands", x, ARGUMENT, () -> x.runScript(4, 0));
         CHECKS.refuses("min commands", x, ARGUMENT, () -> x.runScript(Integer.MIN_VALUE, 0));
@@ -111,9 +111,9 @@ public final class TrialTest {
         two(5190260100L, -1);
         three(519020610071903L, 1);
         two(5190271902L, -1);
-        BillArchive x = Views.loaded("Ba1a2a3pc0000s000213");
+        Recorded x = Views.loaded("Ba1a2a3pc0000s000213");
         CHECKS.same("a script's slip is of the hour 12", -1, x.runScript(2, 5000170002L));
-        BillArchive y = Views.loaded("Ba1a2a3pc0000s000211");
+        Recorded y = Views.loaded("Ba1a2a3pc0000s000211");
         CHECKS.same("a script's slip is of the hour 12", -1, y.runScript(2, 5000170001L));
     }
 
@@ -139,7 +139,7 @@ public final class TrialTest {
         two(4103190000L, 1);
         two(4103190001L, -1);
         two(4103170301L, 1);
-        BillArchive dark = new BillArchive();
+        Recorded dark = new Recorded();
         CHECKS.same("twenty dark nights", 0, dark.runScript(1, 90019));
         CHECKS.same("twenty dark nights", -1, dark.runScript(1, 90020));
         CHECKS.same("nobody there", 0, dark.runScript(1, 70000));
@@ -151,18 +151,18 @@ public final class TrialTest {
         three(123457000090000L, 0);
         three(700001234590000L, 1);
         three(700009000012345L, 2);
-        BillArchive x = house();
+        Recorded x = house();
         x.set(0, 1);
         x.runScript(1, 10305);
         CHECKS.same("a script is no action", 0, x.undo());
     }
 
     private static void simulateRanges() {
-        BillArchive x = house();
+        Recorded x = house();
         CHECKS.refuses("m 0", x, ARGUMENT, () -> x.simulate(0, 0));
         CHECKS.refuses("m 61", x, ARGUMENT, () -> x.simulate(0, 61));
         CHECKS.refuses("m -1", x, ARGUMENT, () -> x.simulate(0, -1));
-        CHECKS.same("no parts", 2000000, new BillArchive().simulate(5, 60));
+        CHECKS.same("no parts", 2000000, new Recorded().simulate(5, 60));
         String before = Views.of(x);
         x.simulate(Long.MIN_VALUE, 60);
         x.simulate(Long.MAX_VALUE, 1);
@@ -173,7 +173,7 @@ public final class TrialTest {
     /** Does the turns by the public calls, on an archive of the same kind. */
     private static void simulateSteps() {
         for (long seed = -40; seed <= 40; seed++) {
-            BillArchive x = full();
+            Recorded x = full();
             long value = seed * 987654321987L;
             for (int m = 1; m <= 60; m++) {
                 value = value * 6364136223846793005L + 1442695040888963407L;
@@ -184,11 +184,11 @@ public final class TrialTest {
         }
     }
 
-    private static BillArchive full() {
+    private static Recorded full() {
         return Views.loaded("Ba1a2a3a4a5a6a7a8a9a0ppppppc0000c1100c2200c3300c4400c5500u06u17u28u39s000612s150908");
     }
 
-    private static void step(BillArchive x, int r) {
+    private static void step(Recorded x, int r) {
         int q = r / 8;
         int kind = r % 8;
         if (kind < 2) {

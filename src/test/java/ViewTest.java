@@ -25,12 +25,12 @@ public final class ViewTest {
     }
 
     /** Two parts with principals 0 and 1, and actors 2 and 3, of fame 1 to 4. */
-    private static BillArchive house() {
+    private static Recorded house() {
         return Views.loaded("Ba1a2a3a4ppc0000c1100");
     }
 
     private static void whoPlayedBySlip() {
-        BillArchive x = house();
+        Recorded x = house();
         x.slip(4, 0, 2, 10);
         x.slip(4, 0, 3, 9);
         CHECKS.same("the latest hour first", 2, x.played(4, 0));
@@ -47,7 +47,7 @@ public final class ViewTest {
         x.slip(4, 1, 1, 0);
         x.slip(4, 1, 0, 0);
         CHECKS.same("a slip for one taken is passed over", 0, x.played(4, 1));
-        BillArchive y = house();
+        Recorded y = house();
         y.slip(4, 0, 2, 5);
         y.slip(4, 0, 2, 7);
         y.slip(4, 0, 2, 7);
@@ -60,7 +60,7 @@ public final class ViewTest {
     }
 
     private static void whoPlayedByPrincipal() {
-        BillArchive x = house();
+        Recorded x = house();
         CHECKS.same("the principal", 2, x.bill(0, 0, 2));
         x.cast(1, 0, 0);
         CHECKS.same("the lowest part first", 0, x.bill(0, 0, 1));
@@ -71,7 +71,7 @@ public final class ViewTest {
     }
 
     private static void whoPlayedByUnderstudy() {
-        BillArchive x = house();
+        Recorded x = house();
         x.understudy(0, 1);
         x.understudy(0, 2);
         x.understudy(0, 3);
@@ -89,13 +89,13 @@ public final class ViewTest {
         x.cast(0, 1, 8);
         CHECKS.same("the principal of this part and another", 1, x.bill(9, 0, 1));
         CHECKS.same("as its principal", 2, x.bill(9, 0, 2));
-        BillArchive y = house();
+        Recorded y = house();
         y.understudy(1, 2);
         y.understudy(1, 3);
         y.slip(2, 0, 2, 3);
         y.ill(1, 2, true);
         CHECKS.same("one taken is passed over", 3, y.played(2, 1));
-        BillArchive last = Views.loaded("Ba1a2a3ppc0000c1100u12u10");
+        Recorded last = Views.loaded("Ba1a2a3ppc0000c1100u12u10");
         last.ill(1, 5, true);
         last.ill(2, 5, true);
         CHECKS.same("the principal of a lower part is left out", 0, last.bill(5, 1, 2));
@@ -107,12 +107,12 @@ public final class ViewTest {
         last.slip(5, 1, 1, 3);
         last.lose(0);
         CHECKS.same("an understudy plays by no slip", 0, last.found(0, 4) + last.about(6));
-        BillArchive away = Views.loaded("Ba1a2a3ppc0000c1100u10i105s050212");
+        Recorded away = Views.loaded("Ba1a2a3ppc0000c1100u10i105s050212");
         CHECKS.same("part 0 is taken by a slip", 2, away.bill(5, 0, 1));
         CHECKS.same("its principal is left out for part 1 all the same", 0, away.bill(5, 1, 2));
         away.cast(0, BillArchive.NONE, 0);
         CHECKS.same("but not one who is nobody's principal", 0, away.played(5, 1));
-        BillArchive z = Views.loaded("Ba1a2ppc0000c1000u11");
+        Recorded z = Views.loaded("Ba1a2ppc0000c1000u11");
         CHECKS.same("an understudy for one taken", 1, z.played(0, 1));
         z.understudy(0, 1);
         z.ill(0, 3, true);
@@ -121,7 +121,7 @@ public final class ViewTest {
     }
 
     private static void aLostPartDarkensTheNight() {
-        BillArchive x = house();
+        Recorded x = house();
         x.ill(1, 2, true);
         CHECKS.same("dark", 1, x.night(2, 0));
         CHECKS.same("nobody plays part 0", -1, x.played(2, 0));
@@ -136,7 +136,7 @@ public final class ViewTest {
     }
 
     private static void about() {
-        BillArchive x = house();
+        Recorded x = house();
         CHECKS.same("parts", 2, x.about(0));
         CHECKS.same("actors", 4, x.about(1));
         CHECKS.same("slips", 0, x.about(2));
@@ -158,7 +158,7 @@ public final class ViewTest {
     }
 
     private static void unlikeBills() {
-        BillArchive x = house();
+        Recorded x = house();
         x.slip(0, 0, 2, 1);
         x.slip(19, 0, 2, 1);
         CHECKS.same("two alike with others between", 2, x.about(5));
@@ -167,7 +167,7 @@ public final class ViewTest {
         CHECKS.same("the same actors in other parts", 3, x.about(5));
         x.ill(0, 2, true);
         CHECKS.same("a dark night has none", 3, x.about(5));
-        BillArchive y = new BillArchive();
+        Recorded y = new Recorded();
         for (int a = 0; a < 10; a++) {
             y.addActor(a);
         }
@@ -183,18 +183,19 @@ public final class ViewTest {
     }
 
     private static void played() {
-        BillArchive x = house();
+        Recorded x = house();
         CHECKS.same("first night", 0, x.played(0, 0));
         CHECKS.same("last night", 1, x.played(19, 1));
         CHECKS.refuses("night -1", x, INDEX, () -> x.played(-1, 0));
         CHECKS.refuses("night 20", x, INDEX, () -> x.played(20, 0));
         CHECKS.refuses("part -1", x, INDEX, () -> x.played(0, -1));
         CHECKS.refuses("part 2", x, INDEX, () -> x.played(0, 2));
-        CHECKS.refuses("no parts", new BillArchive(), INDEX, () -> new BillArchive().played(0, 0));
+        Recorded nobody = new Recorded();
+        CHECKS.refuses("no parts", nobody, INDEX, () -> nobody.played(0, 0));
     }
 
     private static void bill() {
-        BillArchive x = house();
+        Recorded x = house();
         x.addPart();
         x.slip(3, 2, 2, 0);
         x.slip(3, 2, 3, 23);
@@ -219,7 +220,7 @@ public final class ViewTest {
     }
 
     private static void night() {
-        BillArchive x = house();
+        Recorded x = house();
         x.set(0, 7);
         x.set(1, 5);
         x.understudy(1, 3);
@@ -249,13 +250,13 @@ public final class ViewTest {
     }
 
     private static int partsOfOthersOnNightNine() {
-        BillArchive x = house();
+        Recorded x = house();
         x.slip(9, 0, 2, 4);
         return x.night(9, 4);
     }
 
     private static void actor() {
-        BillArchive x = house();
+        Recorded x = house();
         x.slip(3, 1, 2, 4);
         x.slip(9, 0, 2, 4);
         x.slip(11, 0, 2, 4);
@@ -287,7 +288,7 @@ public final class ViewTest {
     }
 
     private static void ranked() {
-        BillArchive x = house();
+        Recorded x = house();
         CHECKS.same("none", -1, x.ranked(0, 0));
         x.understudy(0, 3);
         x.understudy(0, 0);
@@ -305,7 +306,7 @@ public final class ViewTest {
     }
 
     private static void found() {
-        BillArchive x = house();
+        Recorded x = house();
         x.slip(13, 1, 3, 23);
         x.slip(0, 0, 2, 0);
         int[] want = {13, 1, 3, 23, 1};
@@ -323,7 +324,7 @@ public final class ViewTest {
     }
 
     private static void setting() {
-        BillArchive x = house();
+        Recorded x = house();
         CHECKS.same("setting 0", 20, x.setting(0));
         CHECKS.same("setting 1", 3, x.setting(1));
         CHECKS.refuses("setting 2", x, ARGUMENT, () -> x.setting(2));
