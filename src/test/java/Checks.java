@@ -44,7 +44,8 @@ final class Checks {
         sentence = "";
     }
 
-    private String document() {
+    /** The document's words, with one blank wherever it has blanks or begins a line. */
+    String document() {
         if (document == null) {
             try {
                 document = Files.readString(Path.of("../shared/DOC.md")).replaceAll("\\s+", " ");

@@ -8,7 +8,9 @@ public final class RoomTest {
     private static final Checks CHECKS = new Checks("RoomTest");
     private static final com.sun.management.ThreadMXBean BEAN =
         (com.sun.management.ThreadMXBean) ManagementFactory.getThreadMXBean();
-    private static final int CALLS = 150;
+    /** At most three calls a time, and those that fill the archive: less than 512. */
+    private static final int TIMES = 100;
+    private static final int KINDS = 27;
 
     private RoomTest() {
     }
@@ -19,7 +21,7 @@ public final class RoomTest {
         long before = allocated();
         new BillArchive();
         CHECKS.isTrue("a new object is small", allocated() - before < 64 * 1024);
-        for (int kind = 0; kind < 16; kind++) {
+        for (int kind = 0; kind < KINDS; kind++) {
             BillArchive filled = new BillArchive();
             fill(filled);
             measure(filled, kind);
@@ -55,7 +57,7 @@ public final class RoomTest {
     private static void measure(BillArchive x, int kind) {
         call(x, kind, 0);
         long before = allocated();
-        for (int i = 0; i < CALLS; i++) {
+        for (int i = 0; i < TIMES; i++) {
             call(x, kind, i);
         }
         long bytes = allocated() - before;
@@ -79,12 +81,41 @@ public final class RoomTest {
             case 12 -> x.restore(0);
             case 13 -> x.errorPosition();
             case 14 -> x.ill(i % 10, i % 20, i % 3 > 0);
-            default -> loadAndSave(x);
+            case 15 -> x.played(i % 20, i % 6);
+            case 16 -> x.bill(i % 20, i % 6, i % 4);
+            case 17 -> x.night(i % 20, i % 5);
+            case 18 -> x.ranked(i % 6, i % 5);
+            case 19 -> x.found(i % 20, i % 5);
+            case 20 -> x.setting(i % 2);
+            case 21 -> x.cast(i % 6, i % 10, i % 20);
+            default -> severalCalls(x, kind, i);
         }
     }
 
-    private static void loadAndSave(BillArchive x) {
-        x.load();
-        x.save(0);
+    /** Calls that belong together, or would soon be refused if they stood alone. */
+    private static void severalCalls(BillArchive x, int kind, int i) {
+        switch (kind) {
+            case 22 -> {
+                x.load();
+                x.save(0);
+            }
+            case 23 -> {
+                x.clearText();
+                x.append(i);
+            }
+            case 24 -> {
+                x.load();
+                x.addActor(i % 10);
+                x.undo();
+            }
+            case 25 -> {
+                x.lose(i % 20);
+                x.slip(i % 20, i % 6, i % 10, i % 24);
+            }
+            default -> {
+                x.release(i % 6, 7);
+                x.understudy(i % 6, 7);
+            }
+        }
     }
 }
